@@ -14,6 +14,7 @@ public final class PlayTest {
         emptyLogIsPlayed();
         keysGoRound();
         keysOfTheGone();
+        keyOfTheGoneGoesToTheNext();
         keysRunOut();
         shutMeetingsDoNothing();
         socialAndAbsent();
@@ -24,6 +25,9 @@ public final class PlayTest {
         queueByLeastSum();
         queueByMostStamps();
         waitingIsCounted();
+        queueClosesUp();
+        loansOfOnePenny();
+        playingAgain();
         flatInterest();
         fallingInterest();
         lateLoans();
@@ -132,6 +136,14 @@ public final class PlayTest {
         meet(round, 1, 0b0111);
         round.play(0);
         dueKeys(round, 1, 2, 0, 1);
+    }
+
+    private static void keyOfTheGoneGoesToTheNext() {
+        KeyBox box = group(6, "turn 52;");
+        meet(box, 0, 63, did(LEFT, 2, 0));
+        meet(box, 1, 0b001011);
+        CHECK.due("play(0)", box.play(0), 2);
+        dueKeys(box, 1, 0, 1, 3);
     }
 
     private static void keysRunOut() {
@@ -287,6 +299,47 @@ public final class PlayTest {
         CHECK.due("who is GONE is out of the QUEUE", gone.meeting(1, 6), 1);
         CHECK.due("WAITED 3", gone.member(3, 5), 1);
         CHECK.due("REFUSED 3", gone.member(3, 6), 0);
+        CHECK.due("lent to 3", gone.member(3, 2), 0);
+        CHECK.due("BOX", gone.sum(2), 50);
+    }
+
+    private static void queueClosesUp() {
+        KeyBox box = group(3, "flat 0;");
+        meet(box, 0, 7, did(BUY, 0, 5), did(BUY, 1, 5), did(ASK, 0, 60), did(ASK, 1, 70));
+        meet(box, 1, 7, did(FINE, 2, 30));
+        box.play(0);
+        CHECK.due("QUEUE 0", box.meeting(0, 6), 1);
+        CHECK.due("QUEUE 1", box.meeting(1, 6), 0);
+        CHECK.due("lent to 0", box.member(0, 2), 60);
+        CHECK.due("lent to 1", box.member(1, 2), 70);
+        CHECK.due("WAITED 1", box.member(1, 5), 1);
+    }
+
+    private static void loansOfOnePenny() {
+        KeyBox box = group(3, "falling 50; weeks 4; late 3; stamp 1;");
+        meet(box, 0, 7, did(BUY, 0, 1), did(ROBBED, 0, 1), did(ASK, 0, 1));
+        meet(box, 1, 7, did(ASK, 0, 2), did(FINE, 2, 2));
+        meet(box, 5, 7, did(ASK, 0, 1));
+        box.play(0);
+        CHECK.due("QUEUE 0", box.meeting(0, 6), 1);
+        CHECK.due("WAITED", box.member(0, 5), 1);
+        CHECK.due("REFUSED while it waits, while it owes", box.member(0, 6), 2);
+        CHECK.due("half a penny is cut", box.member(0, 1), 1);
+        CHECK.due("social and late", box.member(0, 4), 3 + 3);
+    }
+
+    private static void playingAgain() {
+        KeyBox box = group(4, "turn 52;");
+        meet(box, 0, 15, did(BUY, 0, 5), did(ASK, 0, 120), did(BUY, 3, 5), did(FINE, 1, 3), did(LEFT, 2, 0));
+        box.play(0);
+        int[] first = Check.member(box, 0);
+        int[] meeting = Check.meeting(box, 0);
+        int[] sums = Check.sums(box);
+        box.play(0);
+        CHECK.dueRow("member 0 again", Check.member(box, 0), first);
+        CHECK.dueRow("meeting 0 again", Check.meeting(box, 0), meeting);
+        CHECK.dueRow("sums again", Check.sums(box), sums);
+        CHECK.due("REFUSED again", box.member(0, 6), 0);
     }
 
     private static void flatInterest() {
@@ -526,7 +579,19 @@ public final class PlayTest {
         Check.tell(box, 0, "most 4;");
         dueUnplayed(box);
         box.play(3);
+        Check.tell(box, 1, "");
+        dueUnplayed(box);
+        box.play(3);
         duePlayed(box);
+
+        KeyBox empty = new KeyBox();
+        empty.play(3);
+        CHECK.due("an empty LOG is played", empty.count(4), 3);
+        empty.meet(0, 7);
+        dueUnplayed(empty);
+        empty.play(3);
+        empty.back();
+        dueUnplayed(empty);
     }
 
     private static void duePlayed(KeyBox box) {

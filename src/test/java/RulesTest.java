@@ -110,6 +110,9 @@ public final class RulesTest {
         dueFault("stamp ten;", 1, 6);
         dueFault("stamps 10;", 1, 0);
         dueFault("stam 10;", 1, 0);
+        dueFault("xtamp 10;", 1, 0);
+        dueFault("stampz 10;", 1, 0);
+        dueFault("stampa 10;", 1, 0);
         dueFault("stampmost 1;", 1, 0);
         dueFault("Stamp 10;", 1, 0);
         dueFault(";", 1, 0);
