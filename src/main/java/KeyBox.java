@@ -714,7 +714,8 @@ public final class KeyBox {
                 collectLateDues();
                 Arrays.fill(boughtToday, 0);
             }
-            for (int e = start + 1; e < log.endOf(i); e++) {
+            int end = log.endOf(i);
+            for (int e = start + 1; e < end; e++) {
                 doEntry(log.kinds[e], log.whos[e], log.amounts[e], open);
             }
             if (open) {
