@@ -4,12 +4,29 @@ import java.nio.charset.StandardCharsets;
 final class Check {
     private int asked;
     private int wrong;
+    private int sentences;
+    private String words = "";
+
+    /** One sentence of the document, with a test of its own: what is wrong is told under its words. */
+    void sentence(String its, Runnable test) {
+        words = its;
+        sentences++;
+        int before = asked;
+        try {
+            test.run();
+        } catch (RuntimeException e) {
+            note("the test ended with " + e);
+        }
+        if (asked == before) {
+            note("the test looked at no answer");
+        }
+        words = "";
+    }
 
     void due(String what, long got, long want) {
         asked++;
         if (got != want) {
-            wrong++;
-            System.out.println(what + " answered " + got + ", due is " + want);
+            note(what + " answered " + got + ", due is " + want);
         }
     }
 
@@ -21,8 +38,14 @@ final class Check {
         }
     }
 
+    private void note(String fault) {
+        wrong++;
+        System.out.println((words.isEmpty() ? "" : "\"" + words + "\": ") + fault);
+    }
+
     void finish() {
-        System.out.println(asked + " answers looked at, " + wrong + " wrong");
+        String of = sentences == 0 ? "" : " for " + sentences + " sentences";
+        System.out.println(asked + " answers looked at" + of + ", " + wrong + " wrong");
         if (wrong != 0 || asked == 0) {
             System.exit(1);
         }
