@@ -53,7 +53,8 @@ public final class HeldEdgesTest {
     private static void boxUnlike() {
         KeyBox box = Told.group(3, "stamp 10;").rules(1, "stamp 11;").meet(0).meet(1).buy(0, 1).box();
         dueParts("by a penny", box, 1);
-        dueParts("by absent", Told.group(4, "turn 52;").rules(1, "turn 52; absent 1;").meet(0).meetWithout(7, 3).box(), 1);
+        dueParts("by absent", Told.group(4, "turn 52;").rules(1, "turn 52; absent 1;").meet(0)
+                .meetWithout(7, 3).box(), 1);
     }
 
     private static void fundUnlike() {
@@ -99,13 +100,16 @@ public final class HeldEdgesTest {
         KeyBox empty = new KeyBox();
         Check.tell(empty, 1, "stamp 99; social 7;");
         dueParts("an empty LOG", empty, NONE);
-        KeyBox box = Told.group(3, "stamp 99; flat 0;").rules(1, "falling 50; stamp 99;").meet(0).buy(0, 1).ask(0, 5).box();
+        KeyBox box = Told.group(3, "stamp 99; flat 0;").rules(1, "falling 50; stamp 99;")
+                .meet(0).buy(0, 1).ask(0, 5).box();
         dueParts("interest later alone", box, NONE);
         for (int r = 0; r < 4; r++) {
             CHECK.due("RULES " + r + " and themselves", box.parts(r, r), NONE);
         }
-        dueParts("stamps alone are unlike", Told.group(3, "stamp 10; most 2;").rules(1, "stamp 20; most 1;").meet(0).buy(0, 2)
-                .box(), NONE);
+        Told most = Told.group(24, "flat 0;").rules(1, "falling 9;").meet(0).buy(23, 5).ask(23, 10);
+        dueParts("24 MEMBERS, and the last one owes alike", most.box(), NONE);
+        dueParts("stamps alone are unlike", Told.group(3, "stamp 10; most 2;").rules(1, "stamp 20; most 1;")
+                .meet(0).buy(0, 2).box(), NONE);
     }
 
     private static void partsRefused() {
@@ -155,8 +159,8 @@ public final class HeldEdgesTest {
 
     private static void getsAtParting() {
         // 5 pence of interest by RULES 0: 125 are parted 62 and 62 instead of 120 by 60 and 60
-        Told told = Told.group(3, "social 0; flat 10; weeks 4;").rules(1, "social 0; flat 0;").meet(0).buy(0, 5).buy(1, 5)
-                .fine(2, 20).ask(0, 50);
+        Told told = Told.group(3, "social 0; flat 10; weeks 4;").rules(1, "social 0; flat 0;")
+                .meet(0).buy(0, 5).buy(1, 5).fine(2, 20).ask(0, 50);
         dueGains("who has a part of the interest", told, 1, 2);
         dueGains("who owes it", told, 0, -3);
         dueGains("who has no stamps", told, 2, 0);
@@ -166,30 +170,33 @@ public final class HeldEdgesTest {
     }
 
     private static void gotWhenGone() {
-        Told told = Told.group(5, "turn 52; absent 8;").rules(1, "turn 52;").meetWithout(0, 4).buy(3, 3).buy(0, 1).left(3);
+        Told told = Told.group(5, "turn 52; absent 8;").rules(1, "turn 52;")
+                .meetWithout(0, 4).buy(3, 3).buy(0, 1).left(3);
         dueGains("36 instead of 30", told, 3, 6);
         Told died = Told.group(4, "turn 52; death 3;").rules(1, "turn 52; death 1;").meet(0).buy(3, 3).died(3);
         dueGains("what the FUND pays is not its own", died, 3, 0);
     }
 
     private static void loansLessPaidBack() {
-        Told lost = Told.group(3, "social 0; flat 0; loan 900;").rules(1, "social 0; loan 0;").meet(0).buy(0, 1).buy(1, 1)
-                .ask(0, 15);
+        Told lost = Told.group(3, "social 0; flat 0; loan 900;").rules(1, "social 0; loan 0;")
+                .meet(0).buy(0, 1).buy(1, 1).ask(0, 15);
         // In DEFAULT with 15 lent and nothing to get, instead of its SHARE of 10
         dueGains("a loan not paid back", lost, 0, 15 - 10);
         dueGains("who bears it", lost, 1, 5 - 10);
-        Told paid = Told.group(3, "social 0; flat 50; weeks 4;").rules(1, "social 0; flat 0;").meet(0).buy(0, 1).buy(1, 1)
-                .ask(0, 10).meet(1).pay(0, 15);
+        Told paid = Told.group(3, "social 0; flat 50; weeks 4;").rules(1, "social 0; flat 0;")
+                .meet(0).buy(0, 1).buy(1, 1).ask(0, 10).meet(1).pay(0, 15);
         // 15 paid back for 10, and SHARES of 12 instead of 10
         dueGains("a loan paid back", paid, 0, 12 - 15 + 10 - (10 - 10 + 10));
     }
 
     private static void forStamps() {
-        Told told = Told.group(4, "turn 52; stamp 10;").rules(1, "turn 52; stamp 13;").meet(0).buy(0, 3).robbed(1000000);
+        Told told = Told.group(4, "turn 52; stamp 10;").rules(1, "turn 52; stamp 13;")
+                .meet(0).buy(0, 3).robbed(1000000);
         dueGains("three stamps, all robbed", told, 0, 9);
         Told most = Told.group(4, "turn 52; most 2;").rules(1, "turn 52; most 5;").meet(0).buy(0, 9).robbed(1000000);
         dueGains("two stamps and five, all robbed", most, 0, 30);
-        Told gone = Told.group(4, "turn 52; stamp 10;").rules(1, "turn 52; stamp 13;").meet(0).buy(3, 3).robbed(1000000).left(3);
+        Told gone = Told.group(4, "turn 52; stamp 10;").rules(1, "turn 52; stamp 13;")
+                .meet(0).buy(3, 3).robbed(1000000).left(3);
         dueGains("of who is GONE", gone, 3, 9);
     }
 
@@ -197,8 +204,8 @@ public final class HeldEdgesTest {
         dueGains("social", Told.group(3, "social 1;").rules(1, "social 1000;").meet(0), 1, 999);
         dueGains("absent", Told.group(4, "turn 52;").rules(1, "turn 52; absent 1000;").meetWithout(0, 3), 3, 1000);
         // Its late dues come into the BOX, and all of that is robbed.
-        Told late = Told.group(3, "flat 0; weeks 1; late 7;").rules(1, "flat 0; weeks 1;").meet(0).buy(0, 1).ask(0, 10).meet(1)
-                .robbed(1000000);
+        Told late = Told.group(3, "flat 0; weeks 1; late 7;").rules(1, "flat 0; weeks 1;")
+                .meet(0).buy(0, 1).ask(0, 10).meet(1).robbed(1000000);
         dueGains("late", late, 0, -7);
         // By RULES 1 the second MEETING is SHUT, for 3 has a KEY.
         Told fine = Told.group(4, "turn 52;").rules(1, "turn 1;").meet(0).meetWithout(1, 3).fine(0, 33).robbed(1000000);

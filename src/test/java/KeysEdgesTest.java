@@ -34,8 +34,8 @@ public final class KeysEdgesTest {
         CHECK.due("FUND", bare.meeting(0, 3), 0);
 
         // A year that leaves something of each kind: money, stamps, a loan, one who waits, one who is GONE
-        Told told = Told.group(4, "social 3; absent 2; turn 52; weeks 1; late 4;").meet(0).buy(0, 5).buy(1, 5).ask(0, 60)
-                .meetWithout(1, 3).left(2).ask(1, 150).ask(1, 1);
+        Told told = Told.group(4, "social 3; absent 2; turn 52; weeks 1; late 4;")
+                .meet(0).buy(0, 5).buy(1, 5).ask(0, 60).meetWithout(1, 3).left(2).ask(1, 150).ask(1, 1);
         KeyBox box = told.rules(1, "falling 5; stamp 9; turn 52;").play();
         int[] first = Check.member(box, 1);
         int[] gone = Check.member(box, 2);

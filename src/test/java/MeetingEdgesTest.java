@@ -68,14 +68,16 @@ public final class MeetingEdgesTest {
     // ---- as an open one begins
 
     private static void beginningIsFirst() {
-        KeyBox box = Told.group(4, "turn 52; social 5; death 100; absent 3;").meetWithout(0, 3).buy(3, 1).died(2).play();
+        KeyBox box = Told.group(4, "turn 52; social 5; death 100; absent 3;")
+                .meetWithout(0, 3).buy(3, 1).died(2).play();
         CHECK.due("the FUND paid what came this day", box.sum(10), 15);
         CHECK.due("dues of who died this day", box.member(2, 4), 5);
         CHECK.due("BOX", box.sum(2), 3);
     }
 
     private static void notGoneAreAsked() {
-        KeyBox box = Told.group(4, "turn 52; social 7; absent 5;").meetWithout(0, 3).left(3).meet(1).meetWithout(2, 3).play();
+        KeyBox box = Told.group(4, "turn 52; social 7; absent 5;").meetWithout(0, 3).left(3).meet(1)
+                .meetWithout(2, 3).play();
         CHECK.due("FUND 0", box.meeting(0, 3), 21);
         CHECK.due("BOX 0", box.meeting(0, 2), 5);
         CHECK.due("FUND 1, it being there", box.meeting(1, 3), 42);
@@ -110,12 +112,15 @@ public final class MeetingEdgesTest {
     }
 
     private static void fullFourWeeks() {
-        int[][] weeksAndOwed = {{1, 100}, {3, 100}, {4, 110}, {5, 110}, {7, 110}, {8, 121}, {11, 121}, {12, 133}, {48, 309}};
+        int[][] weeksAndOwed = {{1, 100}, {3, 100}, {4, 110}, {5, 110}, {7, 110}, {8, 121}, {11, 121}, {12, 133},
+                {48, 309}};
         for (int[] row : weeksAndOwed) {
             KeyBox box = loanOf100("falling 10;", row[0]);
             CHECK.due("owed, " + row[0] + " weeks behind", box.member(0, 1), row[1]);
             CHECK.due("interest", box.sum(11), row[1] - 100);
         }
+        KeyBox last = Told.group(24, "falling 10;").meet(0).buy(23, 5).ask(23, 50).meet(4).play();
+        CHECK.due("owed by the last of 24", last.member(23, 1), 55);
         CHECK.due("falling 0", loanOf100("falling 0;", 49).member(0, 1), 100);
         CHECK.due("falling 50", loanOf100("falling 50;", 8).member(0, 1), 225);
         CHECK.due("flat does not grow", loanOf100("flat 0;", 49).member(0, 1), 100);
@@ -181,6 +186,8 @@ public final class MeetingEdgesTest {
             CHECK.due(row[0] + " weeks", loanOf100(text, row[1]).member(0, 4), 2 + 7);
             CHECK.due("a week more than " + row[0], loanOf100(text, row[1] + 1).member(0, 4), 2 + 7);
         }
+        KeyBox penny = Told.group(3, "flat 0; late 7; weeks 5; social 0;").meet(0).buy(0, 5).ask(0, 1).meet(5).play();
+        CHECK.due("a penny is LATE too", penny.member(0, 4), 7);
         KeyBox given = Told.group(3, "flat 0; late 7; weeks 5; social 0;").meet(0).buy(0, 5).ask(0, 60).meet(3)
                 .fine(1, 10).meet(7).meet(8).play();
         CHECK.due("week 7, given in week 3", given.meeting(2, 2), 0);
@@ -219,7 +226,8 @@ public final class MeetingEdgesTest {
 
     private static void gone() {
         Told told = Told.group(4, "turn 52; social 9; death 4; stamp 7;").meet(0).buy(0, 1).buy(3, 2).left(3);
-        KeyBox box = told.buy(3, 1).ask(3, 1).pay(3, 1).fine(3, 1).died(3).left(3).meet(1).buy(3, 1).fine(3, 2).died(3).play();
+        KeyBox box = told.buy(3, 1).ask(3, 1).pay(3, 1).fine(3, 1).died(3).left(3)
+                .meet(1).buy(3, 1).fine(3, 2).died(3).play();
         CHECK.dueRow("who LEFT", Check.member(box, 3), 0, 0, 0, 0, 9, 0, 0, 1, 14, 0, 0, 0, 2);
         CHECK.due("paid by the FUND", box.sum(10), 0);
         CHECK.due("BOX", box.sum(2), 7);
@@ -230,13 +238,16 @@ public final class MeetingEdgesTest {
     }
 
     private static void upToMost() {
-        int[][] mostBuysAndStamps = {{1, 9, 1, 1}, {9, 9, 9, 9}, {5, 4, 4, 5}, {5, 5, 1, 5}, {5, 2, 3, 5}, {5, 2, 2, 4}};
+        int[][] mostBuysAndStamps = {{1, 9, 1, 1}, {9, 9, 9, 9}, {5, 4, 4, 5}, {5, 5, 1, 5}, {5, 2, 3, 5},
+                {5, 2, 2, 4}};
         for (int[] row : mostBuysAndStamps) {
             KeyBox box = Told.group(3, "most " + row[0] + ";").meet(0).buy(1, row[1]).buy(0, 1).buy(1, row[2]).play();
             CHECK.due("most " + row[0] + ", " + row[1] + " and " + row[2], box.member(1, 0), row[3]);
             CHECK.due("bought", box.member(1, 12), row[3]);
             CHECK.due("of another", box.member(0, 0), 1);
         }
+        KeyBox thrice = Told.group(3, "most 5;").meet(0).buy(1, 2).buy(1, 2).buy(1, 2).buy(1, 1).play();
+        CHECK.due("2 and 2 and 2 and 1", thrice.member(1, 0), 5);
         KeyBox next = Told.group(3, "most 2;").meet(0).buy(1, 9).meet(1).buy(1, 9).play();
         CHECK.due("the next MEETING begins anew", next.member(1, 0), 4);
     }
@@ -293,6 +304,9 @@ public final class MeetingEdgesTest {
         CHECK.due("QUEUE", box.meeting(1, 6), 1);
         CHECK.due("WAITED", box.member(0, 5), 2);
         CHECK.due("lent", box.member(0, 2), 0);
+        KeyBox penny = Told.group(3, "").meet(0).buy(0, 5).robbed(50).ask(0, 1).ask(0, 1).meet(1).ask(0, 1).play();
+        CHECK.due("REFUSED while a penny is asked for", penny.member(0, 6), 2);
+        CHECK.due("QUEUE", penny.meeting(1, 6), 1);
     }
 
     private static void noMore() {
@@ -371,7 +385,8 @@ public final class MeetingEdgesTest {
         CHECK.dueRow("MEMBER 3", Check.member(box, 3), 0, 0, 20, 0, 2, 0, 0, 1, 10, 0, 0, 0, 3);
         CHECK.due("BOX", box.sum(2), 10);
         CHECK.due("paid by the FUND", box.sum(10), 3);
-        KeyBox poor = Told.group(4, "turn 52; flat 50; weeks 4;").meet(0).buy(0, 1).buy(3, 1).ask(3, 20).meet(1).died(3).play();
+        KeyBox poor = Told.group(4, "turn 52; flat 50; weeks 4;").meet(0).buy(0, 1).buy(3, 1).ask(3, 20)
+                .meet(1).died(3).play();
         CHECK.due("owed beyond WORTH: 30 less 15", poor.sum(7), 15);
     }
 
@@ -388,7 +403,8 @@ public final class MeetingEdgesTest {
         KeyBox third = Told.group(4, "turn 52;").meet(0).buy(0, 3).buy(3, 1).fine(1, 3).left(3).play();
         CHECK.due("43 / 4, cut", third.member(3, 8), 10);
         CHECK.due("BOX", third.sum(2), 33);
-        KeyBox owed = Told.group(4, "turn 52; flat 50; weeks 4;").meet(0).buy(0, 3).buy(3, 1).ask(0, 10).meet(1).left(3).play();
+        KeyBox owed = Told.group(4, "turn 52; flat 50; weeks 4;").meet(0).buy(0, 3).buy(3, 1).ask(0, 10)
+                .meet(1).left(3).play();
         CHECK.due("30 and 15 owed, / 4, cut", owed.member(3, 8), 11);
         KeyBox all = Told.group(4, "turn 52;").meet(0).buy(3, 1).fine(1, 3).left(3).play();
         CHECK.due("all stamps are its own", all.member(3, 8), 13);
@@ -427,7 +443,8 @@ public final class MeetingEdgesTest {
     private static void paidAsFarAsItGoes() {
         int[][] lentAndGot = {{19, 20}, {20, 20}, {21, 19}, {39, 1}, {40, 0}};
         for (int[] row : lentAndGot) {
-            KeyBox box = Told.group(4, "turn 52; flat 0;").meet(0).buy(0, 2).buy(3, 2).ask(0, row[0]).meet(1).left(3).play();
+            KeyBox box = Told.group(4, "turn 52; flat 0;").meet(0).buy(0, 2).buy(3, 2).ask(0, row[0])
+                    .meet(1).left(3).play();
             CHECK.due("got, the BOX being " + (40 - row[0]), box.member(3, 8), row[1]);
             CHECK.due("BOX", box.sum(2), 40 - row[0] - row[1]);
             CHECK.due("what is missing is not lost by it", box.sum(7), 0);
@@ -439,7 +456,8 @@ public final class MeetingEdgesTest {
         for (int[] row : owesAndLost) {
             CHECK.due("lost, " + row[0] + " owed of 20", leftOwing(row[0]).sum(7), row[1]);
         }
-        KeyBox two = Told.group(5, "turn 52; flat 0;").meet(0).buyOneEach(5).ask(3, 25).ask(4, 20).meet(1).left(3, 4).play();
+        KeyBox two = Told.group(5, "turn 52; flat 0;").meet(0).buyOneEach(5).ask(3, 25).ask(4, 20)
+                .meet(1).left(3, 4).play();
         // 50 / 5 of 25, then 25 / 4 of 20
         CHECK.due("lost by two", two.sum(7), 15 + 14);
     }
@@ -456,7 +474,8 @@ public final class MeetingEdgesTest {
         CHECK.due("lent to who is GONE", queue.member(3, 2), 0);
         CHECK.due("WAITED", queue.member(3, 5), 0);
         CHECK.due("lent to who was behind", queue.member(4, 2), 12);
-        KeyBox waiting = Told.group(4, "turn 52;").meet(0).buy(3, 2).ask(3, 60).meet(1).left(3).meet(2).fine(0, 99).play();
+        KeyBox waiting = Told.group(4, "turn 52;").meet(0).buy(3, 2).ask(3, 60).meet(1).left(3)
+                .meet(2).fine(0, 99).play();
         CHECK.due("QUEUE ahead of it", waiting.meeting(0, 6), 1);
         CHECK.due("QUEUE behind it", waiting.meeting(1, 6), 0);
         CHECK.due("lent", waiting.member(3, 2), 0);
@@ -480,7 +499,8 @@ public final class MeetingEdgesTest {
     private static void orderFirst() {
         dueLent("2, 0, 1", savers("first").ask(2, 30).ask(0, 25).ask(1, 20), 25, 0, 30);
         dueLent("1, 0, 2", savers("first").ask(1, 30).ask(0, 31).ask(2, 30), 0, 30, 30);
-        dueLent("who asked a MEETING before is first", savers("first").ask(1, 61).meet(1).ask(0, 60).fine(2, 1), 0, 61, 0);
+        dueLent("who asked a MEETING before is first", savers("first").ask(1, 61)
+                .meet(1).ask(0, 60).fine(2, 1), 0, 61, 0);
     }
 
     private static void orderSmall() {
@@ -512,7 +532,8 @@ public final class MeetingEdgesTest {
         dueLent("one that is too much keeps nobody", savers("first").ask(0, 61).ask(1, 40).ask(2, 20), 0, 40, 20);
         dueLent("the first leaves too little", savers("first").ask(0, 40).ask(1, 21).ask(2, 20), 40, 0, 20);
         dueLent("who is not there too", savers("first").ask(0, 61).meet(1).fine(1, 1), 61, 0, 0);
-        KeyBox away = Told.group(4, "turn 52; flat 0;").meet(0).buy(3, 1).ask(3, 11).meetWithout(1, 3).fine(0, 1).play();
+        KeyBox away = Told.group(4, "turn 52; flat 0;").meet(0).buy(3, 1).ask(3, 11)
+                .meetWithout(1, 3).fine(0, 1).play();
         CHECK.due("lent to one who is not there", away.member(3, 2), 11);
     }
 
@@ -527,6 +548,11 @@ public final class MeetingEdgesTest {
         CHECK.due("WAITED, a SHUT one aside", box.member(0, 5), 3);
         CHECK.due("WAITED of who was given it at once", box.member(1, 5), 0);
         CHECK.due("lent", box.member(0, 2), 120);
+        KeyBox penny = Told.group(3, "flat 0;").meet(0).buy(0, 5).robbed(50).ask(0, 1).meet(1)
+                .meet(2).fine(1, 1).play();
+        CHECK.due("QUEUE for a penny", penny.meeting(1, 6), 1);
+        CHECK.due("WAITED for a penny", penny.member(0, 5), 2);
+        CHECK.due("lent", penny.member(0, 2), 1);
     }
 
     private static void queueAtTheEnd() {
@@ -547,9 +573,11 @@ public final class MeetingEdgesTest {
     }
 
     private static void flatIsCut() {
-        int[][] flatSumAndOwed = {{10, 9, 9}, {10, 10, 11}, {10, 19, 20}, {50, 1, 1}, {50, 3, 4}, {1, 99, 99}, {1, 100, 101}};
+        int[][] flatSumAndOwed = {{10, 9, 9}, {10, 10, 11}, {10, 19, 20}, {50, 1, 1}, {50, 3, 4}, {1, 99, 99},
+                {1, 100, 101}};
         for (int[] row : flatSumAndOwed) {
-            KeyBox box = Told.group(3, "weeks 4; flat " + row[0] + ";").meet(0).buy(0, 5).buy(1, 5).ask(0, row[1]).play();
+            KeyBox box = Told.group(3, "weeks 4; flat " + row[0] + ";")
+                    .meet(0).buy(0, 5).buy(1, 5).ask(0, row[1]).play();
             CHECK.due(row[1] + " at flat " + row[0], box.member(0, 1), row[2]);
         }
         // Cut for one 4 of weeks already: 1 and 1 and 1, not 5.7 in all

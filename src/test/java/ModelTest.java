@@ -53,7 +53,8 @@ public final class ModelTest {
         for (int r = 0; r < 4; r++) {
             tell(r, goodText());
         }
-        int entries = 20 + random.nextInt(200);
+        // Now and then a LOG that comes to be full.
+        int entries = 20 + random.nextInt(random.nextInt(10) == 0 ? 340 : 200);
         for (int i = 0; i < entries; i++) {
             if (wild && random.nextInt(4) == 0) {
                 wildCall();

@@ -36,8 +36,10 @@ public final class PartingEdgesTest {
 
     private static void members() {
         CHECK.sentence("Of the latest play(), of MEMBER m ahead of PARTING", PartingEdgesTest::aheadOfParting);
+        CHECK.sentence("what 0: stamps, 1: owes", PartingEdgesTest::stampsAndOwes);
         CHECK.sentence("2: got as loans in all, 3: paid back in all", PartingEdgesTest::loansInAll);
         CHECK.sentence("4: social, absent, late, FINES paid in all", PartingEdgesTest::duesInAll);
+        CHECK.sentence("5: MEETINGS WAITED, 6: asks REFUSED", PartingEdgesTest::waitedAndRefused);
         CHECK.sentence("7: 1 if GONE; 8: got from the BOX when GONE", PartingEdgesTest::whenGone);
         CHECK.sentence("at PARTING 9: SHARE (0 if GONE, in DEFAULT)", PartingEdgesTest::shareOfGoneAndDefault);
         CHECK.sentence("10: gets, 11: 1 if in DEFAULT", PartingEdgesTest::getsAndDefault);
@@ -47,6 +49,7 @@ public final class PartingEdgesTest {
         CHECK.sentence("nothing was played since THE LOG .. changed", PartingEdgesTest::sinceTheLogChanged);
         CHECK.sentence("nothing was played since .. RULES changed", PartingEdgesTest::sinceRulesChanged);
         CHECK.sentence("since .. changed: a refused call changes nothing", PartingEdgesTest::refusedCallsKeepIt);
+        CHECK.sentence("since .. changed: what is neither changes nothing", PartingEdgesTest::otherCallsKeepIt);
     }
 
     private static void meetings() {
@@ -177,7 +180,8 @@ public final class PartingEdgesTest {
         CHECK.due("the other has all of the 9 left", box.member(1, 9), 9);
         CHECK.due("gets of who is in DEFAULT", box.member(0, 10), 0);
         CHECK.due("its stamps as they were ahead of PARTING", box.member(0, 0), 1);
-        KeyBox robbed = Told.group(3, "flat 0; social 0;").meet(0).buyOneEach(1).ask(0, 10).meet(1).buyOneEach(3).robbed(30).play();
+        KeyBox robbed = Told.group(3, "flat 0; social 0;").meet(0).buyOneEach(1).ask(0, 10)
+                .meet(1).buyOneEach(3).robbed(30).play();
         // TOTAL 10 by 4 stamps, 0 has two of them: 5 of 10 owed; then 0 for two
         CHECK.due("lost", robbed.sum(8), 5);
         CHECK.due("SHARE of nothing", robbed.member(1, 9), 0);
@@ -251,9 +255,19 @@ public final class PartingEdgesTest {
         CHECK.due("of the latest play(), flat 10", box.member(0, 1), 14);
     }
 
+    private static void stampsAndOwes() {
+        KeyBox box = Told.group(24, "turn 52; flat 0;").meet(0).buy(23, 5).buy(0, 2).ask(23, 7).ask(0, 60).play();
+        CHECK.due("stamps of 23", box.member(23, 0), 5);
+        CHECK.due("stamps of 0", box.member(0, 0), 2);
+        CHECK.due("stamps of 1", box.member(1, 0), 0);
+        CHECK.due("23 owes", box.member(23, 1), 7);
+        CHECK.due("0 owes", box.member(0, 1), 60);
+        CHECK.due("1 owes", box.member(1, 1), 0);
+    }
+
     private static void loansInAll() {
-        KeyBox box = Told.group(3, "flat 0;").meet(0).buy(0, 5).ask(0, 30).meet(1).pay(0, 10).pay(0, 20).ask(0, 45).meet(2)
-                .pay(0, 5).play();
+        KeyBox box = Told.group(3, "flat 0;").meet(0).buy(0, 5).ask(0, 30).meet(1).pay(0, 10).pay(0, 20).ask(0, 45)
+                .meet(2).pay(0, 5).play();
         CHECK.due("got", box.member(0, 2), 75);
         CHECK.due("paid", box.member(0, 3), 35);
         KeyBox gone = Told.group(4, "turn 52; flat 0;").meet(0).buy(3, 5).ask(3, 30).meet(1).pay(3, 10).left(3).play();
@@ -262,10 +276,21 @@ public final class PartingEdgesTest {
     }
 
     private static void duesInAll() {
-        KeyBox box = Told.group(4, "turn 52; flat 0; social 1; absent 10; late 100; weeks 1;").meet(0).buy(3, 5).ask(3, 5)
-                .fine(3, 1000).meetWithout(1, 3).meet(2).fine(3, 1).play();
+        KeyBox box = Told.group(4, "turn 52; flat 0; social 1; absent 10; late 100; weeks 1;")
+                .meet(0).buy(3, 5).ask(3, 5).fine(3, 1000).meetWithout(1, 3).meet(2).fine(3, 1).play();
         CHECK.due("3 paid", box.member(3, 4), 2 + 10 + 200 + 1001);
         CHECK.due("0 paid", box.member(0, 4), 3);
+    }
+
+    private static void waitedAndRefused() {
+        KeyBox box = Told.group(4, "turn 52; flat 0;").meet(0).buy(3, 2).ask(3, 30).ask(3, 1).ask(2, 1)
+                .meet(1).ask(3, 1).meetOf(2, 0).ask(3, 1).meetWithout(3, 3).ask(3, 1).fine(0, 10)
+                .meet(4).ask(3, 1).play();
+        CHECK.due("WAITED in two OPEN ones", box.member(3, 5), 2);
+        CHECK.due("REFUSED twice waiting and once owing", box.member(3, 6), 3);
+        CHECK.due("WAITED of who was REFUSED", box.member(2, 5), 0);
+        CHECK.due("REFUSED without stamps", box.member(2, 6), 1);
+        CHECK.due("REFUSED of who never asked", box.member(0, 6), 0);
     }
 
     private static void whenGone() {
@@ -293,8 +318,8 @@ public final class PartingEdgesTest {
             CHECK.due("gets " + m, box.member(m, 10), gets[m][0]);
             CHECK.due("DEFAULT " + m, box.member(m, 11), gets[m][1]);
         }
-        CHECK.due("who is GONE with a loan lost is in none", Told.group(4, "turn 52; flat 0;").meet(0).buy(3, 1).buy(0, 1)
-                .ask(3, 20).meet(1).left(3).play().member(3, 11), 0);
+        CHECK.due("who is GONE with a loan lost is in none", Told.group(4, "turn 52; flat 0;")
+                .meet(0).buy(3, 1).buy(0, 1).ask(3, 20).meet(1).left(3).play().member(3, 11), 0);
     }
 
     private static void boughtInAll() {
@@ -396,6 +421,27 @@ public final class PartingEdgesTest {
         CHECK.due("count(4)", empty.count(4), 2);
     }
 
+    private static void otherCallsKeepIt() {
+        KeyBox box = playedOnce();
+        Check.write(box, "stamp 77;");
+        CHECK.due("end(3)", box.end(3), 3);
+        box.parts(0, 1);
+        box.gains(0, 1, 2);
+        box.entry(0, 0);
+        box.rule(0, 0);
+        box.fault(0);
+        box.count(0);
+        duePlayed("behind calls that change neither", box);
+        // MEMBERS are told beside THE LOG, so they are no change of it.
+        KeyBox empty = new KeyBox();
+        empty.play(2);
+        CHECK.due("members(5) of an empty LOG", empty.members(5), 1);
+        CHECK.due("count(4)", empty.count(4), 2);
+        CHECK.due("sum(0)", empty.sum(0), 0);
+        CHECK.due("member(4, 0)", empty.member(4, 0), 0);
+        CHECK.due("member(5, 0)", empty.member(5, 0), -9);
+    }
+
     // ---- meeting
 
     private static void ithMeeting() {
@@ -420,7 +466,8 @@ public final class PartingEdgesTest {
     }
 
     private static void fundOwedStamps() {
-        KeyBox box = Told.group(3, "social 2;").meet(0).buy(0, 2).buy(1, 3).ask(0, 10).ask(1, 20).meet(1).pay(0, 3).play();
+        KeyBox box = Told.group(3, "social 2;").meet(0).buy(0, 2).buy(1, 3).ask(0, 10).ask(1, 20)
+                .meet(1).pay(0, 3).play();
         CHECK.due("FUND 0", box.meeting(0, 3), 6);
         CHECK.due("FUND 1", box.meeting(1, 3), 12);
         CHECK.due("owed 0", box.meeting(0, 4), 13 + 26);
@@ -476,8 +523,8 @@ public final class PartingEdgesTest {
     }
 
     private static void atTheEnd() {
-        KeyBox box = Told.group(3, "social 4; flat 0;").meet(0).buy(0, 5).ask(0, 20).meet(1).fine(1, 3).meetOf(2, 0).robbed(1)
-                .play();
+        KeyBox box = Told.group(3, "social 4; flat 0;").meet(0).buy(0, 5).ask(0, 20).meet(1).fine(1, 3)
+                .meetOf(2, 0).robbed(1).play();
         CHECK.due("BOX", box.sum(2), 32);
         CHECK.due("FUND", box.sum(3), 24);
         CHECK.due("owed", box.sum(4), 20);
@@ -502,17 +549,18 @@ public final class PartingEdgesTest {
     }
 
     private static void robbedAndPaid() {
-        KeyBox box = Told.group(4, "turn 52; death 3; social 2;").meet(0).buy(0, 1).robbed(6).robbed(1000000).died(3).died(2)
-                .died(1).play();
+        KeyBox box = Told.group(4, "turn 52; death 3; social 2;").meet(0).buy(0, 1).robbed(6).robbed(1000000).died(3)
+                .died(2).died(1).play();
         CHECK.due("robbed, what there was", box.sum(9), 10);
         CHECK.due("paid, what there was", box.sum(10), 8);
     }
 
     private static void interestInAll() {
-        KeyBox flat = Told.group(3, "flat 10; weeks 4;").meet(0).buy(0, 5).ask(0, 20).meet(1).pay(0, 22).ask(0, 30).play();
+        KeyBox flat = Told.group(3, "flat 10; weeks 4;").meet(0).buy(0, 5).ask(0, 20)
+                .meet(1).pay(0, 22).ask(0, 30).play();
         CHECK.due("flat, two loans", flat.sum(11), 2 + 3);
-        KeyBox falling = Told.group(3, "falling 10;").meet(0).buy(0, 5).buy(1, 5).ask(0, 20).ask(1, 50).meet(4).pay(1, 55)
-                .meet(8).play();
+        KeyBox falling = Told.group(3, "falling 10;").meet(0).buy(0, 5).buy(1, 5).ask(0, 20).ask(1, 50)
+                .meet(4).pay(1, 55).meet(8).play();
         CHECK.due("falling, two loans", falling.sum(11), 2 + 5 + 2);
         KeyBox gone = Told.group(4, "turn 52; flat 10; weeks 4;").meet(0).buy(3, 5).ask(3, 20).meet(1).left(3).play();
         CHECK.due("of who is GONE too", gone.sum(11), 2);

@@ -212,6 +212,7 @@ public final class RulesEdgesTest {
         dueFault(word + " first;", SYNTAX, word.length() + 1);
         dueFault(word + " " + word + ";", SYNTAX, word.length() + 1);
         dueFault(word + "x 9;", SYNTAX, 0);
+        dueFault("x" + word.substring(1) + " 9;", SYNTAX, 0);
         dueFault(word.substring(1) + " 9;", SYNTAX, 0);
         dueFault(word.substring(0, word.length() - 1) + " 9;", SYNTAX, 0);
         dueFault("9 " + word + ";", SYNTAX, 0);
@@ -225,12 +226,14 @@ public final class RulesEdgesTest {
             CHECK.due("order", box.rule(0, 11), order);
             dueFault(orders[order] + ";", SYNTAX, 0);
             dueFault("order " + orders[order] + "x;", SYNTAX, 6);
+            dueFault("order x" + orders[order].substring(1) + ";", SYNTAX, 6);
             dueFault("order " + orders[order].substring(1) + ";", SYNTAX, 6);
         }
         dueFault("order", SYNTAX, 5);
         dueFault("order;", SYNTAX, 5);
         dueFault("order 0;", SYNTAX, 6);
         dueFault("order first first;", SYNTAX, 12);
+        dueFault("xrder first;", SYNTAX, 0);
         dueFault("order stamp;", SYNTAX, 6);
     }
 
